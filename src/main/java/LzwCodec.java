@@ -566,12 +566,12 @@ public final class LzwCodec {
             lastSymbol[code] = symbol;
             lengths[code] = length;
             newest[code] = NONE;
-            older[code] = NONE;
         }
 
         int addLonger(int code, int symbol) {
             int added = count;
             define(added, code, symbol, lengthOf(code) + 1);
+            // The first codes leave their places in this row unused: none of them has a prefix.
             put(older, added, at(newest, code));
             put(newest, code, added);
             count++;
