@@ -122,10 +122,11 @@ public final class EncodingTest {
         LzwCodec full = Check.loaded("lzw 2 8 reset 90;symbols " + "a".repeat(399) + ";");
         full.encode(0);
         Check.same("encode: symbol 400", 400, full.encodedCount());
-        String before = Check.stateOf(full);
+        int written = full.writtenCount();
         Check.fails("encode: symbol 401", STATE, () -> full.encode(0));
         Check.fails("encode: wrong symbol 401", ARGUMENT, () -> full.encode(2));
-        Check.same("encode: nothing changed", before, Check.stateOf(full));
+        Check.same("encode: no symbol more", 400, full.encodedCount());
+        Check.same("encode: no code more", written, full.writtenCount());
         Check.same("encode: one change", 0, full.undo());
         full.encode(1);
         full.flush();
@@ -307,28 +308,34 @@ public final class EncodingTest {
         Check.same("restore: what comes later is not in the slot", 8, codec.restore(1));
     }
 
+    /** What the steps of the next test make different; there are too many of them to look at all of the state. */
+    private static String briefly(LzwCodec codec) {
+        return codec.encodedCount() + " " + codec.codeCount() + " " + codec.policy() + " " + codec.limit() + " "
+                + codec.hasPhrase() + " " + Check.writtenOf(codec);
+    }
+
     private static void undo() {
         LzwCodec codec = Check.loaded("lzw 2 3 reset 90;symbols abaabbb;");
         Check.fails("undo: nothing", STATE, () -> codec.undo());
         String[] states = new String[7];
-        states[0] = Check.stateOf(codec);
+        states[0] = briefly(codec);
         codec.encode(0);
-        states[1] = Check.stateOf(codec);
+        states[1] = briefly(codec);
         Check.encodeText(codec, "abab");
-        states[2] = Check.stateOf(codec);
+        states[2] = briefly(codec);
         codec.flush();
-        states[3] = Check.stateOf(codec);
+        states[3] = briefly(codec);
         codec.setPolicy(LzwCodec.WATCH);
-        states[4] = Check.stateOf(codec);
+        states[4] = briefly(codec);
         codec.setLimit(3);
-        states[5] = Check.stateOf(codec);
+        states[5] = briefly(codec);
         codec.restart();
         for (int left = 5; left >= 0; left--) {
             Check.same("undo: left", left, codec.undo());
-            Check.same("undo: state " + left, states[left], Check.stateOf(codec));
+            Check.same("undo: state " + left, states[left], briefly(codec));
         }
         Check.fails("undo: no more", STATE, () -> codec.undo());
-        Check.same("undo: no more", states[0], Check.stateOf(codec));
+        Check.same("undo: no more", states[0], briefly(codec));
         codec.encode(1);
         Check.same("undo: new changes", 0, codec.undo());
     }

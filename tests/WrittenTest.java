@@ -102,7 +102,7 @@ public final class WrittenTest {
     }
 
     private static void manyBits() {
-        LzwCodec codec = Check.loaded("lzw 26 8 freeze 90;symbols " + "zyxwvutsrqponmlkjihgfedcba".repeat(12) + ";");
+        LzwCodec codec = Check.loaded("lzw 26 8 freeze 90;symbols " + "zyxwvutsrqponmlkjihgfedcba".repeat(2) + ";");
         StringBuilder due = new StringBuilder();
         for (int i = 0; i < codec.writtenCount(); i++) {
             String digits = Integer.toBinaryString(codec.writtenCode(i));

@@ -6,8 +6,18 @@ final class Check {
 
     private static int checks = 0;
     private static int wrong = 0;
+    private static String place = "";
 
     private Check() {
+    }
+
+    /** What the checks from now on are about; a wrong answer is told with it. */
+    static void place(String what) {
+        place = what.isEmpty() ? "" : what + ": ";
+    }
+
+    static int checks() {
+        return checks;
     }
 
     static void same(String what, long due, long got) {
@@ -53,7 +63,7 @@ final class Check {
     private static void report(String what, String due, String got) {
         wrong++;
         if (wrong <= 50) {
-            System.out.println(what + ": due is " + due + ", answered " + got);
+            System.out.println(place + what + ": due is " + due + ", answered " + got);
         }
     }
 
@@ -100,7 +110,8 @@ final class Check {
 
     static String setupOf(LzwCodec codec) {
         StringBuilder text = new StringBuilder();
-        for (int i = 0; i < codec.setupLength(); i++) {
+        int count = codec.setupLength();
+        for (int i = 0; i < count; i++) {
             text.append((char) codec.setupByte(i));
         }
         return text.toString();
@@ -108,7 +119,8 @@ final class Check {
 
     static String decodedOf(LzwCodec codec) {
         StringBuilder text = new StringBuilder();
-        for (int i = 0; i < codec.decodedCount(); i++) {
+        int count = codec.decodedCount();
+        for (int i = 0; i < count; i++) {
             text.append((char) ('a' + codec.decodedSymbol(i)));
         }
         return text.toString();
@@ -116,7 +128,8 @@ final class Check {
 
     static String encodedOf(LzwCodec codec) {
         StringBuilder text = new StringBuilder();
-        for (int i = 0; i < codec.encodedCount(); i++) {
+        int count = codec.encodedCount();
+        for (int i = 0; i < count; i++) {
             text.append((char) ('a' + codec.encodedSymbol(i)));
         }
         return text.toString();
@@ -124,7 +137,8 @@ final class Check {
 
     static String phraseOf(LzwCodec codec, int code) {
         StringBuilder text = new StringBuilder();
-        for (int i = 0; i < codec.phraseLength(code); i++) {
+        int length = codec.phraseLength(code);
+        for (int i = 0; i < length; i++) {
             text.append((char) ('a' + codec.phraseSymbol(code, i)));
         }
         return text.toString();
@@ -133,7 +147,8 @@ final class Check {
     /** The written codes with their widths, as in "0/3 5/3". */
     static String writtenOf(LzwCodec codec) {
         StringBuilder text = new StringBuilder();
-        for (int i = 0; i < codec.writtenCount(); i++) {
+        int count = codec.writtenCount();
+        for (int i = 0; i < count; i++) {
             text.append(i == 0 ? "" : " ").append(codec.writtenCode(i)).append('/').append(codec.writtenWidth(i));
         }
         return text.toString();
@@ -141,24 +156,25 @@ final class Check {
 
     static String bitsOf(LzwCodec codec) {
         StringBuilder text = new StringBuilder();
-        for (int i = 0; i < codec.bitCount(); i++) {
+        int count = codec.bitCount();
+        for (int i = 0; i < count; i++) {
             text.append(codec.bitAt(i));
         }
         return text.toString();
     }
 
-    /** Everything of the state that undo brings back, by the calls that tell it. */
+    /** The state that undo brings back, in so few calls that a test can look at it several times. */
     static String stateOf(LzwCodec codec) {
         StringBuilder text = new StringBuilder(setupOf(codec));
-        text.append('|').append(codec.alphabetSize()).append(' ').append(codec.greatestWidth()).append(' ')
-                .append(codec.policy()).append(' ').append(codec.limit()).append('|');
-        for (int code = 0; code < codec.codeCount(); code++) {
-            text.append(phraseOf(codec, code)).append(',').append(codec.usesOf(code)).append(' ');
+        int count = codec.codeCount();
+        for (int code = codec.clearCode() + 1; code < count; code++) {
+            text.append('|').append(codec.prefixOf(code)).append(phraseOf(codec, code));
         }
         text.append('|').append(codec.hasPhrase() ? codec.currentPhrase() : -1);
-        text.append('|').append(writtenOf(codec)).append('|').append(bitsOf(codec));
-        text.append('|').append(codec.clearCount()).append(' ').append(codec.codesSinceClear()).append(' ')
-                .append(codec.symbolsSinceClear()).append(' ').append(codec.bitsSinceClear());
+        text.append('|').append(codec.greatestWidth()).append('|').append(writtenOf(codec));
+        text.append('|').append(codec.bitCount()).append(' ').append(codec.clearCount()).append(' ')
+                .append(codec.codesSinceClear()).append(' ').append(codec.symbolsSinceClear()).append(' ')
+                .append(codec.bitsSinceClear());
         return text.toString();
     }
 }
